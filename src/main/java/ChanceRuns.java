@@ -395,7 +395,19 @@ public final class ChanceRuns {
         boolean reads() {
             model.clear();
             tape.rewind();
-            return readLots() && readVars() && readRules() && readGoals() && isAtEnd();
+            boolean fine = readLots();
+            for (int i = 0; fine && i <= Model.MOST_VARS && tape.isWord("var"); i++) {
+                fine = i < Model.MOST_VARS ? readVar() : fails(TOO_MANY);
+            }
+            for (int i = 0; fine && i <= Model.MOST_RULES && tape.isWord("rule"); i++) {
+                fine = i < Model.MOST_RULES ? readRule(model.rules[i]) : fails(TOO_MANY);
+                model.ruleCount = i + 1;
+            }
+            for (int i = 0; fine && i <= Model.MOST_GOALS && tape.isWord("goal"); i++) {
+                fine = i < Model.MOST_GOALS ? readGoal(model.goals[i]) : fails(TOO_MANY);
+                model.goalCount = i + 1;
+            }
+            return fine && isAtEnd();
         }
 
         /** The MODEL that was read, for one that is needed no more. */
@@ -424,14 +436,6 @@ public final class ChanceRuns {
             return passes(';');
         }
 
-        private boolean readVars() {
-            boolean fine = true;
-            for (int i = 0; fine && i <= Model.MOST_VARS && tape.isWord("var"); i++) {
-                fine = i < Model.MOST_VARS ? readVar() : fails(TOO_MANY);
-            }
-            return fine;
-        }
-
         private boolean readVar() {
             tape.next();
             if (!isNewName()) {
@@ -455,15 +459,6 @@ public final class ChanceRuns {
             return passes(';');
         }
 
-        private boolean readRules() {
-            boolean fine = true;
-            for (int i = 0; fine && i <= Model.MOST_RULES && tape.isWord("rule"); i++) {
-                fine = i < Model.MOST_RULES ? readRule(model.rules[i]) : fails(TOO_MANY);
-                model.ruleCount = i + 1;
-            }
-            return fine;
-        }
-
         private boolean readRule(Rule rule) {
             rule.clear();
             tape.next();
@@ -479,15 +474,6 @@ public final class ChanceRuns {
                 return false;
             }
             return passes(Tape.ARROW) && readTerms(rule.effects, EFFECT_SIGNS, ',') && passes(';');
-        }
-
-        private boolean readGoals() {
-            boolean fine = true;
-            for (int i = 0; fine && i <= Model.MOST_GOALS && tape.isWord("goal"); i++) {
-                fine = i < Model.MOST_GOALS ? readGoal(model.goals[i]) : fails(TOO_MANY);
-                model.goalCount = i + 1;
-            }
-            return fine;
         }
 
         private boolean readGoal(Terms goal) {
@@ -690,32 +676,34 @@ public final class ChanceRuns {
         /** States are numbered by their values, the first VAR counting by ones. */
         int stateOf(int[] values) {
             int state = 0;
-            for (int v = Math.min(varCount, values.length) - 1; v >= 0; v--) {
-                state = state * sizeOf(v) + values[v];
+            for (int v = Math.min(varCount, MOST_VARS) - 1; v >= 0 && v < values.length; v--) {
+                state = state * (most[v] + 1) + values[v];
             }
             return state;
         }
 
         void valuesOf(int state, int[] values) {
             int rest = state;
-            for (int v = 0; v < varCount && v < values.length; v++) {
-                int size = sizeOf(v);
-                values[v] = rest % size;
-                rest /= size;
+            for (int v = 0; v < varCount && v < MOST_VARS && v < values.length; v++) {
+                int size = most[v] + 1;
+                if (size > 0) {
+                    values[v] = rest % size;
+                    rest /= size;
+                }
             }
         }
 
         int valueIn(int state, int var) {
             int rest = state;
-            for (int v = 0; v < var && v < varCount; v++) {
-                rest /= sizeOf(v);
+            int value = 0;
+            for (int v = 0; v <= var && v < MOST_VARS; v++) {
+                int size = most[v] + 1;
+                if (size > 0) {
+                    value = rest % size;
+                    rest /= size;
+                }
             }
-            return rest % sizeOf(var);
-        }
-
-        /** Never below 1, for it divides. */
-        private int sizeOf(int var) {
-            return var >= 0 && var < MOST_VARS && most[var] > 0 ? most[var] + 1 : 1;
+            return value;
         }
 
         int rulesMoving(int var) {
@@ -931,15 +919,17 @@ public final class ChanceRuns {
         private void spread(int goal, int n) {
             int states = stateCount();
             Arrays.fill(ways, 0L);
+            Arrays.fill(waysBehind, 0L);
             int first = table.firstState();
             if (first >= 0 && first < Model.MOST_STATES) {
                 ways[first] = 1;
             }
             for (int k = 0; k < n; k++) {
-                Arrays.fill(waysBehind, 0L);
                 for (int s = 0; s < states; s++) {
                     if (ways[s] != 0) {
                         spreadFrom(s, goal);
+                        // Left empty, for it takes the rows of the next STEP.
+                        ways[s] = 0;
                     }
                 }
                 long[] old = ways;

@@ -13,6 +13,7 @@ public final class ModelsTest {
         wrongNumbers();
         tooMany();
         faultsLeaveTheModel();
+        olderBytes();
         seed();
         count();
         due.end();
@@ -178,6 +179,8 @@ public final class ModelsTest {
         due.fault("lots 5;var a 1 0;var b 1 0;var c 1 0;var d 1 0;var a 99", 47, 4);
         due.fault("lots 5;var a 30 0;var b 30 0;var c 1 0;", 35, 4);
         due.fault("lots 5;var a 9 0;var b 9 0;var c 10 99;", 33, 4);
+        // 7 times 11 times 13 is 1001.
+        due.fault("lots 5;var a 6 0;var b 10 0;var c 12 0;goal a=0;", 34, 4);
         due.fault(HEAD + "rule 1:->a+1;".repeat(13), 17 + 12 * 13, 4);
         due.fault(HEAD + "rule 1:->a+1;".repeat(12) + "rule;", 17 + 12 * 13, 4);
         due.fault(HEAD + "goal a=1;".repeat(5), 17 + 4 * 9, 4);
@@ -214,6 +217,20 @@ public final class ModelsTest {
         due.is("moves", x.moves(0), 0);
         due.is("again the first", Due.model(x, SMALL), 4);
         due.is("SEED stays", x.value(3, 9, 0), third);
+    }
+
+    /** What an earlier text left behind the end is not read. */
+    private static void olderBytes() {
+        for (String older : new String[] {" ", "\n", "a", "5", ">", ";", "-"}) {
+            for (String text : new String[] {"lots", "lots 5;", "lots 5;var a 3 0;goal a", "lots 5;var a 3 0;goal a=1",
+                    "lots 5;var a 3 0;rule 1:-"}) {
+                ChanceRuns fresh = new ChanceRuns();
+                ChanceRuns used = new ChanceRuns();
+                Due.model(used, older.repeat(80));
+                due.is("'" + text + "' behind many of '" + older + "'", Due.model(used, text), Due.model(fresh, text));
+                due.is("its fault", used.fault(), fresh.fault());
+            }
+        }
     }
 
     private static void seed() {
