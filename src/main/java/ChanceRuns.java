@@ -1131,7 +1131,7 @@ public final class ChanceRuns {
             Arrays.fill(copies, 0);
             putCopies(0, 1, n);
             int level = 0;
-            for (int turn = 0; turn < MOST_TURNS && level >= 0; turn++) {
+            for (int turn = 0; turn < MOST_TURNS && level >= 0 && level <= MOST_LEVELS; turn++) {
                 if (copies[level] == 0) {
                     level--;
                 } else {

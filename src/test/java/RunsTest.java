@@ -12,16 +12,6 @@ public final class RunsTest {
         due.end();
     }
 
-    private static int[] numbers(long seed, int run, int w, int n) {
-        int[] d = new int[n + 1];
-        long lot = seed + run * -7046029254386353131L;
-        for (int k = 1; k <= n; k++) {
-            lot = lot * 6364136223846793005L + 1442695040888963407L;
-            d[k] = (int) Long.remainderUnsigned(lot >>> 33, w);
-        }
-        return d;
-    }
-
     /** Each RULE has one number, and writes it down: the values are the numbers d. */
     private static void lots() {
         StringBuilder text = new StringBuilder("lots 12;var d 12 12;");
@@ -34,7 +24,7 @@ public final class RunsTest {
         for (long seed : seeds) {
             x.seed(seed);
             for (int run : runs) {
-                int[] d = numbers(seed, run, 12, 60);
+                int[] d = Due.numbers(seed, run, 12, 60);
                 int first = -1;
                 for (int k = 1; k <= 60; k++) {
                     due.is("value of run " + run + " behind " + k, x.value(run, k, 0), d[k]);
@@ -51,7 +41,7 @@ public final class RunsTest {
     private static void weights() {
         ChanceRuns x = Due.with("lots 20;var a 1 0;var b 30 0;"
             + "rule 3:a=1->a=0;rule 5:->b+1;rule 7:a=0->a=1;rule 20:a=1->b=0;goal b=30;");
-        int[] d = numbers(0, 4, 20, 60);
+        int[] d = Due.numbers(0, 4, 20, 60);
         int a = 0;
         int b = 0;
         for (int k = 1; k <= 60; k++) {
