@@ -1,4 +1,5 @@
 import java.lang.management.ManagementFactory;
+import java.nio.ByteBuffer;
 import java.util.ArrayList;
 import java.util.List;
 import java.util.function.ToLongFunction;
@@ -260,27 +261,30 @@ public final class RefusalEdgesTest {
     }
 
     private static long madeBy(com.sun.management.ThreadMXBean bean) {
-        byte[] text = Due.bytesOf(TEXT);
+        // Blanks, so that the last bytes of the text fill a whole feed.
+        ByteBuffer text = ByteBuffer.wrap(Due.bytesOf(TEXT + " ".repeat(7)));
+        int taken = 0;
         long before = bean.getCurrentThreadAllocatedBytes();
         ChanceRuns x = new ChanceRuns();
-        for (int round = 0; round < 3; round++) {
-            for (int k = 0; k < text.length; k++) {
-                x.feed(text[k], 1);
+        // Many MODELS too: what one of them has made is used again by the next.
+        for (int round = 0; round < 21; round++) {
+            for (int at = 0; at + 8 <= text.limit(); at += 8) {
+                x.feed(text.getLong(at), 8);
             }
-            x.model();
-            for (int k = 0; k < 4; k++) {
-                x.block(0, 60, k);
-                x.exact(k, 18);
-                x.sum(1, 17);
-                x.reached();
-                x.both(0, 1, 60, 500, 0);
-                x.misses(14, 5, k);
-                x.test(k, 60, 4, 6, 20, 0);
-                x.split(1, 60, 1, 5, 4, k);
-                x.holds(k, 60, 0);
-                x.seed(k);
-            }
+            taken += x.model() == 100 ? 1 : 0;
+            x.block(0, 60, round);
+            x.exact(round & 3, 18);
+            x.sum(1, 17);
+            x.reached();
+            x.both(0, 1, 60, 500, 0);
+            x.misses(14, 5, round);
+            x.test(round & 3, 60, 4, 6, 20, 0);
+            x.split(1, 60, 1, 5, 4, round);
+            x.holds(round & 3, 60, 0);
+            x.seed(round);
         }
-        return bean.getCurrentThreadAllocatedBytes() - before;
+        long made = bean.getCurrentThreadAllocatedBytes() - before;
+        due.is("MODELS taken", taken, 21);
+        return made;
     }
 }

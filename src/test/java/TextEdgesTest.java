@@ -81,6 +81,12 @@ public final class TextEdgesTest {
         due.fault(text + blanks.substring(0, 768) + "abcdef", 794, 1);
         due.fault(text + blanks.substring(0, 772) + "12", 798, 1);
         due.fault(text.substring(0, 24) + blanks.substring(0, 774) + "99", 800, 1);
+        // A word whose last letter is the tape's last byte is that word: what is missing behind it is missing at the end.
+        due.fault(text + blanks.substring(0, 770) + "goal", 800, 1);
+        due.fault(HEAD + blanks.substring(0, 779) + "rule", 800, 1);
+        due.fault(HEAD + blanks.substring(0, 780) + "var", 800, 1);
+        due.fault(blanks.substring(0, 796) + "lots", 800, 1);
+        due.fault(HEAD + "goal a=1;".repeat(4) + blanks.substring(0, 743) + "goal", 796, 4);
     }
 
     private static void blanks() {
@@ -358,16 +364,25 @@ public final class TextEdgesTest {
         due.sentence("1 it cannot stand there, or is none");
         String[] tokens = "lots|5|;|var|a|3|0|;|rule|1|:|a|<|2|&|a|>|0|->|a|+|1|,|a|-|1|;|goal|a|=|1|;".split("\\|");
         for (int other = 0; other < tokens.length; other++) {
-            for (String none : new String[] {"!", "abcdefg", "100", "\t", "\u00ff", "A", "\u0000"}) {
-                StringBuilder text = new StringBuilder();
-                int place = 0;
-                for (int k = 0; k < tokens.length; k++) {
-                    place = k == other ? text.length() : place;
-                    text.append(k == other ? none : tokens[k]).append(' ');
+            insteadOf(other, tokens, "abcdefg");
+            insteadOf(other, tokens, "100");
+            for (int b = 0; b < 256; b++) {
+                boolean begins = b >= 'a' && b <= 'z' || b >= '0' && b <= '9' || isIn(b, ";:&,<>=+-");
+                if (!begins && !isBlank(b)) {
+                    insteadOf(other, tokens, String.valueOf((char) b));
                 }
-                due.fault(text.toString(), place, 1);
             }
         }
+    }
+
+    private static void insteadOf(int other, String[] tokens, String none) {
+        StringBuilder text = new StringBuilder();
+        int place = 0;
+        for (int k = 0; k < tokens.length; k++) {
+            place = k == other ? text.length() : place;
+            text.append(k == other ? none : tokens[k]).append(' ');
+        }
+        due.fault(text.toString(), place, 1);
     }
 
     private static void theEnd() {
