@@ -20,6 +20,7 @@ public final class ExactEdgesTest {
         reachedInAnyNumber();
         reachedByNumbersAlone();
         reachedRefused();
+        largestModel();
         due.end();
     }
 
@@ -193,5 +194,33 @@ public final class ExactEdgesTest {
         due.is("behind a FAULT", x.reached(), -3);
         Due.model(x, "lots 9;var a 9 3;goal a=0;");
         due.is("with one", x.reached(), 1);
+    }
+
+    private static void largestModel() {
+        due.sentence("W, 1 to 20 .. more than 1000 states (1000 states with 20 LOTS: the largest MODEL that is taken)");
+        // From the last state 19 numbers take c to 7, and the last one changes nothing; behind c 7 each number takes 1 of a.
+        ChanceRuns x = Due.with("lots 20;var a 9 9;var b 9 9;var c 9 9;rule 19:a=9&b=9&c=9->c-2;rule 20:c<9->a-1;"
+            + "goal c=7;goal c=9;goal a=0;");
+        due.is("states that are come to", x.reached(), 11);
+        long rows = 1;
+        for (int n = 1; n <= 13; n++) {
+            rows *= 20;
+            due.is("all rows but one, n " + n, x.exact(0, n), rows - 1);
+            due.is("all rows, n " + n, x.exact(1, n), rows);
+            due.is("c is 7 in all rows but one, n " + n, x.sum(2, n), 7 * rows + 2);
+            due.is("b stays 9, n " + n, x.sum(1, n), 9 * rows);
+        }
+        due.is("a of one STEP", x.sum(0, 1), 180);
+        due.is("a of two STEPS", x.sum(0, 2), 19 * 20 * 8 + 20 * 9);
+        due.is("a is 0 behind ten STEPS", x.exact(2, 10), power(20, 9).longValue() * 19);
+        due.is("a is not 0 behind nine", x.exact(2, 9), 0);
+        due.is("exact of 14", x.exact(0, 14), -4);
+        due.is("sum of 14", x.sum(0, 14), -4);
+        // The same with a RULE for the last number of the last state, too.
+        Due.model(x, "lots 20;var a 9 9;var b 9 9;var c 9 9;rule 19:a=9&b=9&c=9->c-2;rule 1:c=9->b-3;goal b=6;");
+        due.is("the last number", x.exact(0, 1), 1);
+        due.is("b of one STEP", x.sum(1, 1), 19 * 9 + 6);
+        due.is("c of one STEP", x.sum(2, 1), 19 * 7 + 9);
+        due.is("each state", reached("lots 20;var a 9 9;var b 9 9;var c 9 9;rule 1:->a-1;rule 1:->b-1;rule 18:->c-1;goal a=0;"), 1000);
     }
 }

@@ -180,6 +180,10 @@ public final class ModelEdgesTest {
             due.is("a NAME at the end, ahead of an older " + older, Due.model(z, "lots 5;var a 3 0;goal a"), -1023);
             due.is("a NUMBER at the end, ahead of an older " + older, Due.model(z, "lots 5;var a 3 0;goal a=1"), -1025);
             due.is("a SIGN at the end, ahead of an older " + older, Due.model(z, "lots 5;var a 3 0;goal a=1;"), 4);
+            ChanceRuns blank = new ChanceRuns();
+            Due.model(blank, older.repeat(80));
+            due.is("blanks alone, ahead of an older " + older, Due.model(blank, " \n "), -1003);
+            due.is("a blank at the end, ahead of an older " + older, Due.model(blank, "lots 5;var a 3 0; "), -1018);
         }
     }
 

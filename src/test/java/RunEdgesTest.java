@@ -28,6 +28,7 @@ public final class RunEdgesTest {
         goesRefused();
         movesOnce();
         movesRefused();
+        largestModel();
         due.end();
     }
 
@@ -342,6 +343,24 @@ public final class RunEdgesTest {
         ChanceRuns x = counter();
         for (int var : new int[] {-1, 2, 3, 4, Integer.MIN_VALUE, Integer.MAX_VALUE}) {
             due.is("moves(" + var + ")", x.moves(var), -2);
+        }
+    }
+
+    private static void largestModel() {
+        due.sentence("W, 1 to 20 .. more than 1000 states (1000 states with 20 LOTS: the largest MODEL that is taken)");
+        String vars = "lots 20;var a 9 9;var b 9 9;var c 9 9;";
+        int[] rules = new int[20];
+        rules[19] = 1;
+        byNumber(vars + "rule 19:a=9&b=9&c=9->c-2;rule 1:->b-3;goal b=6;", 20, rules);
+        rules[19] = -1;
+        byNumber(vars + "rule 19:a=9&b=9&c=9->c-2;goal c=7;", 20, rules);
+        ChanceRuns x = Due.with(vars + "rule 19:a=9&b=9&c=9->c-2;rule 1:->b-3;goal b=6;goal c=7;");
+        for (int i = 0; i < 100; i++) {
+            boolean isLast = Due.numbers(0, i, 20, 1)[1] == 19;
+            due.is("a behind STEP 1 of RUN " + i, x.value(i, 1, 0), 9);
+            due.is("b behind STEP 1 of RUN " + i, x.value(i, 1, 1), isLast ? 6 : 9);
+            due.is("c behind STEP 1 of RUN " + i, x.value(i, 1, 2), isLast ? 9 : 7);
+            due.is("holds, RUN " + i, x.holds(isLast ? 0 : 1, 1, i), 1);
         }
     }
 }
